@@ -541,18 +541,16 @@ public final class MistHeaps {
             at = 0;
             coded = 0;
             sight = SIGHT_WITHOUT;
-            for (clauses = 0; clauses < MOST_CLAUSES; clauses++) {
+            for (int clause = 0; clause < MOST_CLAUSES; clause++) {
                 int word = readWord();
                 if (word == NONE || !readNumber()) return at;
-                words[clauses] = word;
-                amounts[clauses] = number;
+                words[clause] = word;
+                amounts[clause] = number;
                 if (word == SIGHT) sight = number;
                 else if (!readSign(' ') || !readEither(0)) return at;
-                ends[clauses] = coded;
-                if (at == size) {
-                    clauses++;
-                    return NONE;
-                }
+                ends[clause] = coded;
+                clauses = clause + 1;
+                if (at == size) return NONE;
                 if (!readSign(';')) return at;
             }
             // The last one that there can be has a ; behind it, and that is where no hill goes on.

@@ -232,6 +232,25 @@ public final class PromisesTest {
         due("3: FULL ahead of a fault", x.hill(), FULL);
         due("3: the tape stays too", x.count(4), 8);
         due("3: five", x.count(1), 5);
+        MistHeaps again = heaps(new MistHeaps(), 0);
+        due("3: whole", Checks.hill(again, "sight 1"), 0);
+        due("3: signs of an earlier tape do not count", Checks.hill(again, "sigh"), -14);
+        due("3: nor those of a number", Checks.hill(again, "sight "), -16);
+        due("3: a fault behind a test", Checks.hill(again, "see 50 h=0|h=0;x"), -25);
+        due("3: then another", Checks.hill(again, "see 10 h=1"), 1);
+        due("3: the test ahead of the fault is gone", again.of(0, 3), 3);
+        due("3: likewise", Checks.hill(again, "see 50 h=1;x"), -21);
+        due("3: and then", Checks.hill(again, "see 10 h=0"), 2);
+        due("3: only the last is there", again.of(0, 3), 13);
+        String full = "see 1 h=9" + "|h=9".repeat(21) + ";x";
+        for (int i = 0; i < 5; i++) due("3: a long fault", Checks.hill(again, full), -10 - full.length() + 1);
+        due("3: a clause ahead of a fault", Checks.hill(again, "see 5 h=9;see 50 h=0;see 50 h=0;x"), -42);
+        due("3: there is room", Checks.hill(again, "see 20 h=9|h=8|h=7|h=6|h=0"), 3);
+        due("3: for all of it, and for nothing else", again.of(0, 3), 23);
+        StringBuilder ten = new StringBuilder("see 1 h=0");
+        for (int i = 1; i < 10; i++) ten.append(";see 1 h=0");
+        due("3: ten clauses", Checks.hill(again, ten.toString()), 4);
+        due("3: all ten hold", again.of(0, 3), 13);
     }
 
     private static void p04Edges() {
@@ -296,6 +315,7 @@ public final class PromisesTest {
         for (int i = 0; i < 7; i++) due("7: heap " + i, x.heap(i, 9, 5 * i), i);
         due("7: BAD ahead of STATE", x.heap(0, 10, 0), BAD);
         due("7: that cell is taken", x.heap(1, 0, 30), STATE);
+        due("7: the first one's too", x.heap(1, 0, 0), STATE);
         due("7: eighth", x.heap(0, 0, 35), 7);
         due("7: STATE ahead of FULL", x.heap(0, 0, 35), STATE);
         due("7: FULL", x.heap(0, 0, 34), FULL);
@@ -541,6 +561,9 @@ public final class PromisesTest {
         MistHeaps two = sight(1, 6, 13, 1, 8, 9);
         due("13: two rows", two.cuts(0, 3), 0);
         due("13: and then one", two.cuts(0, 4), 8);
+        MistHeaps first = sight(1, 1, 0, 2);
+        due("13: the first HEAP", first.cuts(1, 2), 1);
+        due("13: STEPS by it", first.steps(1, 2), 2);
         MistHeaps longer = sight(1, 6, 7, 8, 1, 13, 14);
         due("13: a longer way about counts", longer.cuts(0, 2), 0);
     }
@@ -566,6 +589,7 @@ public final class PromisesTest {
         due("14: just with 3", just.bears(0, 1), 3);
         MistHeaps zero = heaps(Checks.withHill("sight 0;see 1 s=0"), 0, 1);
         due("14: with none", zero.bears(0, 1), 0);
+        due("14: by the first HEAP", sight(1, 1, 0, 2).bears(1, 2), 9);
         MistHeaps mist = sight(2, 0, 2);
         mist.set(0, 1);
         due("14: with the MIST as it is", mist.bears(0, 1), NOWHERE);
@@ -600,6 +624,13 @@ public final class PromisesTest {
         due("15: it is of KIND 0", kind.build(0, 1, 0), 4);
         MistHeaps row = heaps(Checks.withHill("sight 3;hide 9 r=0&h>1"), 0, 5);
         due("15: it is on that CELL", row.build(0, 1, 0), 8);
+        due("15: on CELL 0", heaps(Checks.withHill("sight 1;see 4 h=2"), 30, 7).build(0, 1, 0), 0);
+        due("15: no CELL beyond the last", heaps(Checks.withHill("sight 1;see 9 r>5"), 0, 30).build(0, 1, 0), NOWHERE);
+        MistHeaps byFirst = sight(1, 1, 0, 2);
+        due("15: by the first HEAP there are as few", byFirst.build(1, 2, 0), NOWHERE);
+        MistHeaps byBoth = sight(1, 1, 0, 3);
+        due("15: by the first HEAP and the new one", byBoth.build(1, 2, 0), 2);
+        due("15: then there are three", byBoth.build(1, 2, 1), 3);
         MistHeaps two = sight(1, 0, 3);
         due("15: one is too few", two.build(0, 1, 0), NOWHERE);
         MistHeaps eight = sight(1, 0, 2, 4, 12, 14, 16, 24, 26);
@@ -724,6 +755,12 @@ public final class PromisesTest {
         odds(x, 14, 51, 1, 2);
         x.edges(cells(14));
         odds(x, 14, 50, 0, 1);
+        MistHeaps still = sight(1, 7, 14, 35);
+        odds(still, 0, 50, 1, 1);
+        odds(still, 0, 51, 0, 1);
+        odds(still, 35, 52, 1, 1);
+        odds(still, 28, 52, 1, 1);
+        odds(still, 27, 52, 0, 1);
     }
 
     private static void best(MistHeaps x, int cell, int other, long above, long below, int... row) {
@@ -738,6 +775,9 @@ public final class PromisesTest {
         best(x, 7, 21, 1, 1, 3, 3);
         best(x, 7, 28, 1, 1, 3, 3, 3);
         best(x, 7, 14, 1, 1, 3);
+        best(x, 28, 7, 1, 1, 7, 7, 7);
+        best(x, 31, 34, 1, 1, 1, 2, 3);
+        best(x, 34, 31, 1, 1, 6, 6, 6);
         best(x, 0, 35, 0, 1, 0);
         best(x, 0, 35, 0, 1, 0, 0, 0);
         best(x, 0, 0, 1, 1, 0);
@@ -775,6 +815,9 @@ public final class PromisesTest {
         best(x, 0, 6, 1, 2, 4);
         MistHeaps slight = Checks.withHill("drift 1 h=99");
         best(slight, 14, 8, 9, 10, 0);
+        MistHeaps first = new MistHeaps();
+        due("20: asked first, above", first.bestOdds(14, 8, 1, 0), 1);
+        due("20: asked first, another", first.bestOdds(14, 2, 1, 0), 0);
         due("20: cell", x.bestOdds(36, 0, 1, 0), NO);
         due("20: other", x.bestOdds(0, -1, 1, 0), NO);
         due("20: n 0", x.bestOdds(0, 0, 0, 0), NO);
@@ -817,6 +860,7 @@ public final class PromisesTest {
         int[] due = {0, 2, 6, 14, 14, 14, 14, 14, 14};
         for (int n = 1; n <= 9; n++) due("22: " + n + " people", x.line(0, n), due[n - 1]);
         due("22: from another", x.line(2, 2), 2);
+        due("22: the first one counts too", x.line(1, 2), 5);
         due("22: line(4, 1)", x.line(4, 1), NONE);
         due("22: line(-1, 1)", x.line(-1, 1), NONE);
         due("22: NONE ahead of BAD", x.line(4, 0), NONE);
@@ -1052,6 +1096,13 @@ public final class PromisesTest {
             x.walk(-1);
             x.edges(ALL);
         }
+        MistHeaps booked = sight(1, 0, 1, 2);
+        booked.book(0);
+        booked.book(1);
+        booked.image();
+        due("30: another BOOK", looked(booked, 2, 0), 0);
+        booked.undo();
+        due("30: the BOOK as it was", booked.looked(), NOWHERE);
         MistHeaps full = sight(1);
         full.image();
         for (int i = 1; i < 5; i++) due("30: hills", Checks.hill(full, "sight " + i), i);
