@@ -2,15 +2,35 @@
 final class Checks {
     private static int asked = 0;
     private static int wrong = 0;
+    private static String about = "";
+    private static boolean quiet = false;
 
     private Checks() {
+    }
+
+    /** What the answers from now on are about, told ahead of each that is wrong. */
+    static void about(String what) {
+        about = what;
+    }
+
+    /** From now on wrong answers are counted, not told. */
+    static void quiet() {
+        quiet = true;
     }
 
     static void due(String call, long got, long want) {
         asked++;
         if (got == want) return;
         wrong++;
-        if (wrong <= 50) System.out.println(call + " answered " + got + ", due is " + want);
+        if (wrong <= 50 && !quiet) System.out.println(about + call + " answered " + got + ", due is " + want);
+    }
+
+    static int asked() {
+        return asked;
+    }
+
+    static int wrong() {
+        return wrong;
     }
 
     static void feed(MistHeaps x, String text) {

@@ -13,7 +13,7 @@ public final class RandomScenesTest {
     }
 
     public static void main(String[] args) {
-        for (int seed = 0; seed < 150; seed++) {
+        for (int seed = 0; seed < 80; seed++) {
             RandomScenesTest scene = new RandomScenesTest(seed);
             scene.make();
             scene.askOfRows();
