@@ -808,7 +808,8 @@ public final class MistHeaps {
         }
 
         private void tellGoing(Heap from, Heap to) {
-            boolean goes = from != to && apart(from.cell, to.cell) <= reach[to.number] && from.leadsTo(to.cell);
+            boolean goes = from.number != to.number && apart(from.cell, to.cell) <= reach[to.number]
+                && from.leadsTo(to.cell);
             int bit = 1 << to.number;
             onward[from.number] = goes ? onward[from.number] | bit : onward[from.number] & ~bit;
         }

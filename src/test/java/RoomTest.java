@@ -24,7 +24,44 @@ public final class RoomTest {
         for (int i = 0; i < 511; i++) fresh.hill();
         made = BEAN.getCurrentThreadAllocatedBytes() - before;
         Checks.due("a new object and 511 faults make less than 64 KiB", made < 65536 ? 0 : made, 0);
+        most("a new object and 511 heaps that are taken back", RoomTest::heapsAgain);
+        most("a new object and as many hills as 511 calls can make", RoomTest::hillsAgain);
+        most("a new object and 511 images", RoomTest::images);
         Checks.end("RoomTest");
+    }
+
+    /** Each of some 60 hills may have rows of its own, which is far from the room's seven million elements. */
+    private static void most(String what, Runnable run) {
+        run.run();
+        long before = BEAN.getCurrentThreadAllocatedBytes();
+        run.run();
+        long made = BEAN.getCurrentThreadAllocatedBytes() - before;
+        Checks.due(what + " make less than 128 KiB", made < 131072 ? 0 : made, 0);
+    }
+
+    private static void heapsAgain() {
+        MistHeaps x = new MistHeaps();
+        x.image();
+        for (int calls = 1; calls < 511; calls += 2) {
+            x.heap(4, 9, 35);
+            x.undo();
+        }
+    }
+
+    private static void hillsAgain() {
+        MistHeaps x = new MistHeaps();
+        String text = "sight 1";
+        x.image();
+        for (int calls = 1; calls < 503; calls += 9) {
+            for (int i = 0; i < 7; i++) x.feed(text.charAt(i));
+            x.hill();
+            x.undo();
+        }
+    }
+
+    private static void images() {
+        MistHeaps x = new MistHeaps();
+        for (int calls = 0; calls < 511; calls++) x.image();
     }
 
     private static void questions(MistHeaps x) {

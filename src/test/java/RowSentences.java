@@ -21,7 +21,7 @@ final class RowSentences extends Given {
         to.say("ROW: one goes from a HEAP to any other one that is SEEN from its CELL;", RowSentences::row,
             "<= reach[to.number]", "<= reach[from.number]",
             "<= reach[to.number]", "< reach[to.number]",
-            "boolean goes = from != to && ", "boolean goes = ",
+            "boolean goes = from.number != to.number && ", "boolean goes = ",
             "for (int j = 0; j < linked; j++) tellGoing", "for (int j = 0; j < i; j++) tellGoing");
         to.say("from a FALSE one (or one under it) nobody goes on;", RowSentences::falseOnes,
             "boolean leadsTo(int other) {\n            return false;", "boolean leadsTo(int other) {\n            return true;",
