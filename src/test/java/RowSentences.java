@@ -94,7 +94,8 @@ final class RowSentences extends Given {
             "if (scene.isTaken(cell)) continue;", "",
             "if (scene.isTaken(cell)) continue;", "if (!scene.isTaken(cell)) continue;",
             "int best = NOWHERE;\n            for (int cell = 0; cell < CELLS", "int best = NOWHERE;\n            for (int cell = 1; cell < CELLS",
-            "int best = NOWHERE;\n            for (int cell = 0; cell < CELLS", "int best = NOWHERE;\n            for (int cell = 0; cell < CELLS - 1");
+            "int best = NOWHERE;\n            for (int cell = 0; cell < CELLS", "int best = NOWHERE;\n            for (int cell = 0; cell < CELLS - 1",
+            "int best = NOWHERE;\n            for (int cell = 0; cell < CELLS", "int best = NOWHERE;\n            for (int cell = 0; cell <= CELLS");
         to.say("with one of KIND 0, v 0 there (its number behind all others),", RowSentences::whatIsBuilt,
             "new Heap(0, 0, 0, 0)", "new High(1, 0, 9, 0)",
             "new Heap(0, 0, 0, 0)", "new Heap(1, 0, 0, 0)",
@@ -297,6 +298,8 @@ final class RowSentences extends Given {
         due("the first CELL", first.build(0, 1, 0), 0);
         MistHeaps last = heaps(Checks.withHill("sight 3;hide 9 h=2;see 15 h=2&r=5&c=5"), 0, 17);
         due("the last CELL", last.build(0, 1, 0), 35);
+        MistHeaps beyond = heaps(Checks.withHill("sight 1;see 9 r>5"), 0, 30);
+        due("no CELL beyond the last", beyond.build(0, 1, 0), NOWHERE);
     }
 
     private static void whatIsBuilt() {
