@@ -61,21 +61,30 @@ final class Model {
     // A derivation is a text of what must still come: H clauses (the digit behind: how many there were),
     // N a number, D a digit or nothing, E T F as in the document, ^ the end of what is open, others themselves.
     static int faultOf(String text) {
-        Set<String> open = new LinkedHashSet<>(List.of("H0"));
+        Set<String> open = atFirst();
         for (int i = 0; i < text.length(); i++) {
-            Set<String> then = new LinkedHashSet<>();
-            for (String one : open) eat(one, text.charAt(i), then);
-            if (then.isEmpty()) return i;
-            open = then;
+            open = behind(open, text.charAt(i));
+            if (open.isEmpty()) return i;
         }
-        for (String one : open) {
-            if (canEnd(one)) return -1;
-        }
-        return text.length();
+        return canEnd(open) ? -1 : text.length();
     }
 
-    private static boolean canEnd(String rest) {
-        return rest.replace("^", "").replace("D", "").isEmpty();
+    static Set<String> atFirst() {
+        return Set.of("H0");
+    }
+
+    /** What is still open behind one sign more; none, if no hill goes on with it. */
+    static Set<String> behind(Set<String> open, char sign) {
+        Set<String> then = new LinkedHashSet<>();
+        for (String one : open) eat(one, sign, then);
+        return then;
+    }
+
+    static boolean canEnd(Set<String> open) {
+        for (String one : open) {
+            if (one.replace("^", "").replace("D", "").isEmpty()) return true;
+        }
+        return false;
     }
 
     private static void eat(String rest, char sign, Set<String> then) {
